@@ -11,6 +11,8 @@ public final class LanesTurn {
     private static final int SHEETS = 4, MOST_ITEMS = 60, BYTES = 0, SHORTS = 1, INTS = 2;
     private static final int BY_RULE = 4, MOST_OF_TWO = 12, MOST_ENOUGH = 20, ENOUGH_STEP = 5;
     private static final int TURN = 0, PAIN = 1, MORE = 2;
+    /** Above all that can be waited in a day. */
+    private static final long NO_LIMIT = 4611686018427387904L;
 
     private final Lane[] bridge = new Lane[MOST_LANES];
     private int laneCount;
@@ -181,7 +183,7 @@ public final class LanesTurn {
             return NO;
         }
         readyCourse();
-        course.pass(n, Long.MAX_VALUE);
+        course.pass(n, NO_LIMIT);
         found[0] = NONE;
         found[1] = NONE;
         found[2] = course.allWaited;
@@ -221,7 +223,7 @@ public final class LanesTurn {
             readyCourse();
             course.helpedWay = way;
             course.help = ENOUGH_STEP * times;
-            course.pass(n, Long.MAX_VALUE);
+            course.pass(n, NO_LIMIT);
             if (course.waits[way] == 0) {
                 return times;
             }
@@ -234,10 +236,10 @@ public final class LanesTurn {
             return NO;
         }
         readyCourse();
-        course.pass(n, Long.MAX_VALUE);
+        course.pass(n, NO_LIMIT);
         long with = course.allWaited;
         course.shutLane = lane;
-        course.pass(n, Long.MAX_VALUE);
+        course.pass(n, NO_LIMIT);
         return course.allWaited - with;
     }
 
@@ -447,7 +449,7 @@ public final class LanesTurn {
             course.tellPlan(plan);
         }
         course.byRule = by == BY_RULE;
-        course.pass(n, Long.MAX_VALUE);
+        course.pass(n, NO_LIMIT);
     }
 
     private void tryOne(int n, int lane, int minute) {
@@ -466,7 +468,7 @@ public final class LanesTurn {
     }
 
     private void tryTwo(int n, int lane, int first, int later) {
-        long least = found[0] == NONE ? Long.MAX_VALUE : found[3];
+        long least = found[0] == NONE ? NO_LIMIT : found[3];
         course.plan[first] = lane;
         course.plan[later] = lane;
         course.pass(n, least);
@@ -931,9 +933,9 @@ public final class LanesTurn {
             return isGood;
         }
 
-        /** Nothing goes past the last TOKEN, END: so `next` never leaves the rows. */
+        /** No step is taken past END, the last TOKEN: so `next` never leaves the rows. */
         private int token() {
-            return tokens[next];
+            return next < tokens.length ? tokens[next] : END;
         }
 
         private boolean pass(int wanted) {

@@ -157,6 +157,8 @@ public final class LanesTurnPromises {
         due("as it was", x.waited(5, -1), 1);
         due("from NONE", x.stop(-1, 0, 0), 1);
         due("there is none", x.waited(5, -1), 0);
+        due("the last MINUTE", x.stop(0, 59, 59), 1);
+        due("the last MINUTE", x.waited(59, -1), 0);
         due("all MINUTES", x.stop(0, 0, 59), 1);
         due("3, 6, 9, 12, 15", x.waited(5, -1), 45);
     }
@@ -176,6 +178,7 @@ public final class LanesTurnPromises {
             due("MAY TURN in 55", x.told(i, 4, 55), i < 5 ? 1 : 0);
             due("CARRIES", x.told(i, 5, 9), carries[i]);
         }
+        due("MAY TURN in 59", x.told(0, 4, 59), 1);
         due("SLOW of 10", x.told(4, 5, 10), 4);
         due("SLOW of 49", x.told(4, 5, 49), 1);
         due("SLOW of 60, 0 at least", x.told(4, 5, 60), 0);
@@ -251,6 +254,7 @@ public final class LanesTurnPromises {
         goodE("(((((1)))))+(((((1)))))*-----1");
         goodE("not(not(-1))<2 or not(not(-1))");
         goodE("1--1");
+        goodE("(((((1-1 or 2<3 and 4)))))");
         goodE("wait+lanes*minute-side<bus and empty=1");
         fault("", 0);
         fault("  ", 2);
@@ -267,6 +271,8 @@ public final class LanesTurnPromises {
         faultOfE("12345", 0);
         faultOfE("1 + 12345", 4);
         faultOfE("waits", 0);
+        faultOfE("xait", 0);
+        faultOfE("waitz", 0);
         faultOfE("wait2", 4);
         faultOfE("2wait", 1);
         faultOfE("turn", 0);
@@ -290,6 +296,7 @@ public final class LanesTurnPromises {
         faultOfE("not not not not not not 1", 20);
         faultOfE("not ( - ( not ( 1 ) ) )", 14);
         faultOfE("(((((-1)))))", 5);
+        faultOfE("(((((not 1)))))", 5);
         faultOfE("(((((1 + not 1)))))", 9);
         faultOfE("(((((1)))))+((((((1))))))", 17);
         faultOfE("not 1 < (((((1)))))", 12);
@@ -471,6 +478,7 @@ public final class LanesTurnPromises {
         due("a SLOW one", y.best(8, 0), 1);
         due("in 0 of 0 and 5", y.best(8, 1), 0);
         due("SLOW: 9 carries 5", y.best(8, 2), 0);
+        due("n 60: RESTS in 5, 0 wait at the end", x.set(0, 591, 9) + x.best(60, 1), 0);
         due("n", y.best(0, 0), NO);
         due("n", y.best(61, 0), NO);
         due("what", y.best(5, 3), NO);
