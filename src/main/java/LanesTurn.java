@@ -89,7 +89,12 @@ public final class LanesTurn {
     }
 
     public int stop(int lane, int from, int to) {
-        if (!isIn(lane, NONE, laneCount - 1) || !isIn(from, 0, MINUTES - 1) || !isIn(to, from, MINUTES - 1)) {
+        if (lane == NONE) {
+            // With no STOP there is nothing that from and to could be wrong for.
+            now.stopLane = NONE;
+            return 1;
+        }
+        if (laneOf(lane) == null || !isIn(from, 0, MINUTES - 1) || !isIn(to, from, MINUTES - 1)) {
             return BAD;
         }
         now.stopLane = lane;

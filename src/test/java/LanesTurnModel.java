@@ -292,7 +292,7 @@ public final class LanesTurnModel {
         }
 
         int stop(int lane, int from, int to) {
-            if (lane < -1 || lane >= lanes.size() || from < 0 || to > 59 || from > to) return -2;
+            if (lane != -1 && (lane < 0 || lane >= lanes.size() || from < 0 || to > 59 || from > to)) return -2;
             now.stopLane = lane;
             now.stopFrom = from;
             now.stopTo = to;
@@ -784,7 +784,8 @@ public final class LanesTurnModel {
             case 4, 5 -> due("come(" + way + ", " + sheet + ")", x.come(way, sheet), y.come(way, sheet));
             case 6 -> {
                 int from = near(0, 12);
-                stop(near(-1, 7), from, random.nextBoolean() ? near(0, 59) : from + near(0, 9));
+                int lane = random.nextInt(4) == 0 ? -1 : near(-1, 7);
+                stop(lane, from, random.nextBoolean() ? near(0, 59) : from + near(0, 9));
             }
             case 7 -> feedText();
             case 8 -> force(near(0, 5));

@@ -157,10 +157,34 @@ public final class LanesTurnPromises {
         due("as it was", x.waited(5, -1), 1);
         due("from NONE", x.stop(-1, 0, 0), 1);
         due("there is none", x.waited(5, -1), 0);
+        stopOfNone(x);
         due("the last MINUTE", x.stop(0, 59, 59), 1);
         due("the last MINUTE", x.waited(59, -1), 0);
         due("all MINUTES", x.stop(0, 0, 59), 1);
         due("3, 6, 9, 12, 15", x.waited(5, -1), 45);
+    }
+
+    /** Lane NONE, whatever from and to are: a STOP that was is gone; x waits 1 with the STOP that is laid here, else 0. */
+    private static void stopOfNone(LanesTurn x) {
+        int[][] any = {{2, 0}, {0, 60}, {-1, 0}, {60, 60}, {LEAST, MOST}, {MOST, LEAST}, {59, 59}, {0, 59}};
+        for (int[] a : any) {
+            due("a STOP", x.stop(1, 4, 4), 1);
+            due("it is there", x.waited(5, -1), 1);
+            due("stop -1 " + a[0] + " " + a[1], x.stop(NONE, a[0], a[1]), 1);
+            due("it is gone", x.waited(5, -1), 0);
+        }
+        due("no LANES", new LanesTurn().stop(NONE, 2, 0), 1);
+        due("-2 is not NONE", x.stop(BAD, 0, 0), BAD);
+        x.stop(1, 4, 4);
+        x.image();
+        due("of NONE ahead of back()", x.stop(NONE, 9, 3), 1);
+        x.back();
+        due("THE IMAGE has it", x.waited(5, -1), 1);
+        due("of NONE", x.stop(NONE, 9, 3), 1);
+        x.image();
+        x.stop(1, 4, 4);
+        x.back();
+        due("THE IMAGE has none", x.waited(5, -1), 0);
     }
 
     private static void told() {
