@@ -119,7 +119,7 @@ public final class LanesTurnLanguage {
         }
     }
 
-    /** The dearest calls, 512 times: they make nothing, beside LANES. */
+    /** The dearest calls, till the object is used up (512 calls): they make nothing, beside LANES. */
     private static void room() {
         com.sun.management.ThreadMXBean meter = (com.sun.management.ThreadMXBean) ManagementFactory.getThreadMXBean();
         LanesTurn x = new LanesTurn();
@@ -129,7 +129,7 @@ public final class LanesTurnLanguage {
         x.sheet(0, 0, 60);
         calls(x, 4);
         long before = meter.getCurrentThreadAllocatedBytes();
-        calls(x, 64);
+        calls(x, 31);
         long made = meter.getCurrentThreadAllocatedBytes() - before;
         must(made < 4096, "the calls make nothing: " + made + " bytes");
         before = meter.getCurrentThreadAllocatedBytes();

@@ -1,65 +1,7 @@
 /** For each promise of the document: ordinary calls, the edges that it names, and wrong ones, reckoned by hand. */
-public final class LanesTurnPromises {
-    private static final int NONE = -1, BAD = -2, STATE = -3, FULL = -4;
-    private static final int MISSING = -11, OUTSIDE = -12, OTHER = -13, BELOW_0 = -14;
-    private static final long NO = -4611686018427387904L;
-    private static final int LEAST = Integer.MIN_VALUE, MOST = Integer.MAX_VALUE;
-
-    private static String promise = "";
-    private static int calls = 0;
-    private static int wrong = 0;
-
-    private static void due(String call, long got, long want) {
-        calls++;
-        if (got != want) {
-            wrong++;
-            System.out.println(promise + ": " + call + " answered " + got + ", due is " + want);
-        }
-    }
-
-    private static int feed(LanesTurn x, String tape) {
-        int has = 0;
-        for (int i = 0; i < tape.length(); i++) {
-            has = x.feed(1, tape.charAt(i));
-        }
-        return has;
-    }
-
-    private static int text(LanesTurn x, String tape) {
-        feed(x, tape);
-        return x.text();
-    }
-
-    /** A TEXT is read and becomes THE RULE (x keeps to 5 of them). */
-    private static LanesTurn rule(LanesTurn x, String tape) {
-        int number = text(x, tape);
-        due("force() of " + tape, x.force(number) >= 0 ? 1 : 0, 1);
-        return x;
-    }
-
-    private static void row(LanesTurn x, int sheet, int sort, int... items) {
-        due("sheet", x.sheet(sheet, sort, items.length), 1);
-        for (int i = 0; i < items.length; i++) {
-            due("cell", x.cell(sheet, i, items[i]), 1);
-        }
-    }
-
-    private static void come(LanesTurn x, int way, int... many) {
-        row(x, 3, 1, many);
-        due("come", x.come(way, 3), many.length);
-        x.sheet(3, -1, 0);
-    }
-
-    private static LanesTurn with(int... lanes) {
-        LanesTurn x = new LanesTurn();
-        for (int i = 0; i + 2 < lanes.length; i += 3) {
-            due("lane", x.lane(lanes[i], lanes[i + 1], lanes[i + 2]), i / 3);
-        }
-        return x;
-    }
-
+public final class LanesTurnPromises extends Calls {
     private static void newObject() {
-        promise = "1 A new object";
+        says("1 A new object");
         LanesTurn x = new LanesTurn();
         int[] counts = {0, 0, 0, 0, 1, 0, 0, 2};
         for (int what = 0; what < 8; what++) {
@@ -77,7 +19,7 @@ public final class LanesTurnPromises {
     }
 
     private static void lane() {
-        promise = "2 lane";
+        says("2 lane");
         LanesTurn x = new LanesTurn();
         int[][] wrongs = {{-1, 0, 0}, {6, 0, 0}, {0, -1, 0}, {0, 21, 0}, {0, 0, -1}, {0, 0, 2}, {LEAST, MOST, MOST}};
         for (int[] w : wrongs) {
@@ -95,7 +37,7 @@ public final class LanesTurnPromises {
     }
 
     private static void set() {
-        promise = "3 set";
+        says("3 set");
         LanesTurn x = new LanesTurn();
         due("COMERS", x.set(0, 0, 99), 0);
         due("COMERS", x.set(0, 0, 7), 99);
@@ -120,7 +62,7 @@ public final class LanesTurnPromises {
     }
 
     private static void come() {
-        promise = "4 come";
+        says("4 come");
         LanesTurn x = new LanesTurn();
         row(x, 0, 2, 1, 99, 0, 100, 5);
         x.set(0, 40, 50);
@@ -142,7 +84,7 @@ public final class LanesTurnPromises {
     }
 
     private static void stop() {
-        promise = "5 stop";
+        says("5 stop");
         LanesTurn x = with(0, 3, 0, 0, 1, 0);
         come(x, 0, 4, 4, 4, 4, 4);
         due("nobody waits", x.waited(5, -1), 0);
@@ -188,7 +130,7 @@ public final class LanesTurnPromises {
     }
 
     private static void told() {
-        promise = "6 told";
+        says("6 told");
         LanesTurn x = with(0, 5, 0, 1, 5, 1, 2, 5, 0, 3, 5, 1, 4, 5, 0, 5, 5, 1);
         int[] carries = {5, 7, 5, 4, 5, 5};
         int[] rests = {2, 3, 2, 3, 4, 2};
@@ -222,7 +164,7 @@ public final class LanesTurnPromises {
     }
 
     private static void feeds() {
-        promise = "7 feed";
+        says("7 feed");
         LanesTurn x = new LanesTurn();
         due("n", x.feed(0, 0), BAD);
         due("n", x.feed(9, 0), BAD);
@@ -266,7 +208,7 @@ public final class LanesTurnPromises {
     }
 
     private static void texts() {
-        promise = "8 text";
+        says("8 text");
         good("turn wait - 30 ; pain 1 ; more 0 ;");
         good("\n turn1;pain1;more0 ;\n\n");
         goodE("9999");
@@ -335,7 +277,7 @@ public final class LanesTurnPromises {
     }
 
     private static void rules() {
-        promise = "9 force";
+        says("9 force");
         LanesTurn x = new LanesTurn();
         due("none such", x.force(1), BAD);
         due("none such", x.force(-1), BAD);
@@ -356,7 +298,7 @@ public final class LanesTurnPromises {
     }
 
     private static void reckoned() {
-        promise = "10 waited: texts";
+        says("10 waited: texts");
         comesTo("2 + 3 * 4", 14);
         comesTo("(2 + 3) * 4", 20);
         comesTo("9 - 3 - 2", 4);
@@ -383,7 +325,7 @@ public final class LanesTurnPromises {
     }
 
     private static void waited() {
-        promise = "10 waited";
+        says("10 waited");
         LanesTurn x = with(0, 3, 0, 0, 2, 1);
         come(x, 0, 10, 0, 5);
         come(x, 1, 2, 4, 0);
@@ -413,7 +355,7 @@ public final class LanesTurnPromises {
     }
 
     private static void day() {
-        promise = "11 day";
+        says("11 day");
         LanesTurn x = with(0, 4, 0, 2, 3, 0, 0, 1, 0, 4, 3, 1, 0, 2, 1);
         x.set(0, 0, 20);
         x.set(1, 0, 2);
@@ -480,7 +422,7 @@ public final class LanesTurnPromises {
     }
 
     private static void best() {
-        promise = "12 best";
+        says("12 best");
         LanesTurn x = with(0, 2, 0, 0, 2, 0, 0, 2, 1);
         come(x, 1, 4, 4, 4, 4, 4, 4);
         due("nothing turned: 2 + 4 + 6 + 8 + 10 + 12", x.waited(6, -1), 42);
@@ -516,7 +458,7 @@ public final class LanesTurnPromises {
     }
 
     private static void two() {
-        promise = "13 two";
+        says("13 two");
         LanesTurn x = with(0, 5, 0, 0, 5, 0, 0, 0, 1);
         x.set(2, 0, 1);
         come(x, 0, 9, 0, 0, 0, 9);
@@ -553,7 +495,7 @@ public final class LanesTurnPromises {
     }
 
     private static void enough() {
-        promise = "14 enough";
+        says("14 enough");
         LanesTurn x = with(0, 3, 0, 0, 1, 1);
         come(x, 0, 10, 10, 30);
         due("10: 3 and 5 and 5", x.enough(1, 0), 2);
@@ -574,7 +516,7 @@ public final class LanesTurnPromises {
     }
 
     private static void worth() {
-        promise = "15 worth";
+        says("15 worth");
         LanesTurn x = with(0, 3, 0, 0, 1, 0, 0, 9, 1);
         come(x, 0, 4, 4, 4);
         due("3, 6, 9", x.worth(3, 0), 18);
@@ -595,7 +537,7 @@ public final class LanesTurnPromises {
     }
 
     private static void judge() {
-        promise = "16 judge";
+        says("16 judge");
         LanesTurn x = with(0, 1, 0, 5, 1, 0, 4, 1, 0, 1, 1, 0);
         row(x, 0, 1, -1, 0, 3, 0);
         due("RESTS in 1 and 2, told in 3", x.judge(0), NONE);
@@ -630,7 +572,7 @@ public final class LanesTurnPromises {
     }
 
     private static void images() {
-        promise = "17 image, 18 back";
+        says("17 image, 18 back");
         LanesTurn x = with(0, 2, 0);
         due("there is none", x.back(), STATE);
         x.set(0, 0, 9);
@@ -669,7 +611,7 @@ public final class LanesTurnPromises {
     }
 
     private static void counts() {
-        promise = "19 count";
+        says("19 count");
         LanesTurn x = with(0, 1, 1, 0, 1, 0, 5, 1, 1);
         x.set(0, 0, 9);
         x.set(0, 590, 8);
@@ -688,7 +630,7 @@ public final class LanesTurnPromises {
     }
 
     private static void sheets() {
-        promise = "20 sheet";
+        says("20 sheet");
         LanesTurn x = new LanesTurn();
         due("none of any", x.sheet(3, 2, 0), 1);
         due("cell", x.cell(3, 0, 1), OUTSIDE);
@@ -711,7 +653,7 @@ public final class LanesTurnPromises {
     }
 
     private static void cells() {
-        promise = "21 cell";
+        says("21 cell");
         LanesTurn x = new LanesTurn();
         due("no such", x.cell(4, 0, 0), BAD);
         due("no such", x.cell(-1, 0, 0), BAD);
@@ -731,7 +673,7 @@ public final class LanesTurnPromises {
     }
 
     private static void copies() {
-        promise = "22 copy";
+        says("22 copy");
         LanesTurn x = new LanesTurn();
         row(x, 0, 1, 1, 2, 3, 4);
         row(x, 1, 1, 0, 0, 0);
@@ -759,7 +701,7 @@ public final class LanesTurnPromises {
     }
 
     private static void laneRows() {
-        promise = "23 lanes";
+        says("23 lanes");
         LanesTurn x = new LanesTurn();
         row(x, 0, 0, 9, 0, 5, 0, 6, 0, 0, 4, 20, 1, 1, 1);
         due("one is left out", x.lanes(0, 0, 1, 3), 2);
@@ -784,7 +726,7 @@ public final class LanesTurnPromises {
     }
 
     private static void takens() {
-        promise = "24 taken";
+        says("24 taken");
         LanesTurn x = with(0, 10, 0, 1, 11, 0, 2, 12, 0, 3, 13, 0, 4, 14, 0, 5, 15, 0);
         int[] under = {0b000001, 0b000011, 0b000101, 0b001011, 0b010101, 0b100001};
         for (int lane = 0; lane < 6; lane++) {
@@ -823,9 +765,6 @@ public final class LanesTurnPromises {
         copies();
         laneRows();
         takens();
-        System.out.println(calls + " answers, " + wrong + " not as due");
-        if (wrong != 0) {
-            System.exit(1);
-        }
+        end();
     }
 }
