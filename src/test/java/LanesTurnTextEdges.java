@@ -305,6 +305,19 @@ public final class LanesTurnTextEdges extends Calls {
         due("what was THE RULE", x.force(0), 5);
     }
 
+    private static void nothingOfAFault() {
+        says("Promise 8: THE TAPE, which is empty then (by a FAULT, too): nothing of it is in the next TEXT");
+        for (String e : new String[] {"-5+1", "not 5", "5-9", "5 and 0", "5<1", "wait*3", "5 or 1", "5=4"}) {
+            LanesTurn x = new LanesTurn();
+            String tape = "turn 0;pain 1;more " + e;
+            due("a FAULT of " + e, text(x, tape), -100 - tape.length());
+            due("none is left", x.count(5), 0);
+            due("a TEXT", text(x, "turn 0;pain 1;more 5;"), 1);
+            due("it is THE RULE", x.force(1), 0);
+            due("its own more", x.day(1, -1, 0), 5);
+        }
+    }
+
     private static void names() {
         says("Of a WAY in a MINUTE: wait; lanes (RESTING ones, too); minute; side: the WAY; bus; empty: EMPTY");
         LanesTurn x = ruled("0", "1", "(lanes-1)*7", 0, 0, 0, 0, 0, 1, 0, 0, 1);
@@ -393,6 +406,7 @@ public final class LanesTurnTextEdges extends Calls {
         wrapping();
         truth();
         sixTexts();
+        nothingOfAFault();
         names();
         painBounds();
         moreBounds();
